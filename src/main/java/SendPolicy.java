@@ -100,7 +100,7 @@ public final class SendPolicy {
     }
 
     public int expand() {
-        boolean good = sender.isKnown() && Macros.isTarget(tape, 0, tape.size(), true);
+        boolean good = sender.isKnown() && Macros.isTarget(tape, 0, tape.size());
         if (good) {
             out.cut(0);
             macros.write(tape, 0, tape.size(), sender.domain(), out);
@@ -489,10 +489,10 @@ public final class SendPolicy {
             starts = new int[MAILBOX_LIMIT + 2];
         }
 
-        static boolean isTarget(Bytes row, int from, int to, boolean slashes) {
+        static boolean isTarget(Bytes row, int from, int to) {
             for (int k = from; k < to; k++) {
                 int sign = row.at(k);
-                if (sign < 33 || sign > 126 || sign == '/' && !slashes) {
+                if (sign < 33 || sign > 126) {
                     return false;
                 }
                 if (sign == '%') {
@@ -671,16 +671,17 @@ public final class SendPolicy {
             kind = read;
             from = at;
             to = stop;
-            return Macros.isTarget(text, at, stop, true);
+            return Macros.isTarget(text, at, stop);
         }
 
         private boolean readHost(int read, Bytes text, int at, int stop) {
             kind = read;
+            // A D ends before the first slash here, so it needs no look for slashes of its own.
             int slash = text.find('/', at, stop);
             if (at < slash) {
                 from = at + 1;
                 to = slash;
-                if (text.at(at) != ':' || !Macros.isTarget(text, from, to, false)) {
+                if (text.at(at) != ':' || !Macros.isTarget(text, from, to)) {
                     return false;
                 }
             }
