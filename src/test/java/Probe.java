@@ -48,6 +48,50 @@ final class Probe {
         return a << 24 | b << 16 | c << 8 | d;
     }
 
+    /** Signs that a D may have, none like its neighbours, so that a lost or doubled one is seen. */
+    static String pattern(int length) {
+        StringBuilder text = new StringBuilder();
+        for (int k = 0; k < length; k++) {
+            text.append((char) ('a' + k % 23));
+        }
+        return text.toString();
+    }
+
+    /** An object with something in all that it keeps but the tape, and with a permission behind it. */
+    static Probe furnished() {
+        Probe probe = new Probe().from(address(1, 2, 3, 4), "u@a.com");
+        probe.text("a.com", "v=spf1 a:b.com exists:%{l}.none ~mx -all").host("b.com", 7);
+        probe.exchange("a.com", "m.com").host("m.com", address(1, 2, 3, 4));
+        return probe.expands("kept", "kept").permits("furnished", 4, 3, 1);
+    }
+
+    /** Looks at all that furnished() made; its entries are gone then. */
+    void isFurnishedStill(String behind) {
+        holds("kept");
+        count(3);
+        due("cost(0) behind " + behind, policy.cost(0), 3);
+        due("cost(1) behind " + behind, policy.cost(1), 1);
+        permits("behind " + behind, 4, 3, 1);
+        tapeHas(0, behind);
+        expands("%{s}/%{i}", "u@a.com/1.2.3.4");
+        due("forget behind " + behind, policy.forget(), 4);
+    }
+
+    /** Asks the tape for one byte more than it should have, and then for those. */
+    Probe tapeHas(int size, String behind) {
+        count(2);
+        due("end(" + (size + 1) + ") behind " + behind, policy.end(size + 1), SendPolicy.REFUSED);
+        due("end(" + size + ") behind " + behind, policy.end(size), size);
+        return this;
+    }
+
+    /** Reads the tape as it is, which must be without macros, and looks at OUT. */
+    Probe tapeIs(String want) {
+        count(1);
+        due("expand of the tape", policy.expand(), want.length());
+        return holds(want);
+    }
+
     /** Puts exactly the text on a tape that is empty. */
     Probe type(String text) {
         byte[] bytes = bytes(text);
@@ -106,6 +150,11 @@ final class Probe {
     Probe expands(String target, String want) {
         due("expand of " + target, type(target).policy.expand(), want.length());
         return holds(want);
+    }
+
+    int feedWords(int word) {
+        count(1);
+        return policy.feed(word, word, word, word, word);
     }
 
     Probe refusesToExpand(String target) {
