@@ -164,7 +164,8 @@ public final class MacroEdgesTest {
     // "without a % that does not begin a MACRO"
     private static void percentsThatBeginNoMacro() {
         refuses("%", "x%", "%x", "%%%", "%{", "%{}", "%{s", "%{s1", "%{s1r", "%{s}%", "%{ss}", "%{s s}", "%s", "%}", "%2",
-            "%20", "% ", "%\0", "%{s.}", "%{s,}", "%{S}", "%{1}", "%{1s}", "%{\u00f3}", "x%{s}y%{", "%{p}", "%{v}", "%{h}");
+            "%20", "% ", "%\0", "%{s.}", "%{s,}", "%{S}", "%{1}", "%{1s}", "%{\u00f3}", "x%{s}y%{", "%{p}", "%{v}", "%{h}",
+            "%(s}", "%xs}", "%ss}", "%[s]", "%{s)", "%}s{");
         Probe probe = usual().expands("%{o}{", "a.b.com{").expands("{%{o}}", "{a.b.com}").expands("%%{", "%{");
         probe.expands("x".repeat(796) + "%{l}", "x".repeat(796) + "u-v.w");
         probe.refusesToExpand("x".repeat(797) + "%{l").refusesToExpand("x".repeat(799) + "%");

@@ -9,6 +9,7 @@ public final class MatchEdgesTest {
         thirtyTwoBitsWithout();
         whatIncludeMakesOfACheck();
         addressesOfDOrOfTheChecked();
+        domainAndCheckedName();
         existsForAnyAddress();
         exchangesInTheirOrder();
         tenAreCounted();
@@ -123,7 +124,28 @@ public final class MatchEdgesTest {
         with("include:b.com exists:%{d}.x -all").text("b.com", "v=spf1 -all").host("b.com.x", 1)
             .permits("%{d} behind is not that inside", FAIL, 2, 1);
         with("redirect=b.com").text("b.com", "v=spf1 a -all").host("b.com", HERE).permits("d of the redirect", PASS, 2, 0);
+        // A term without D takes none from another term, nor from another record.
+        with("a exists:z.z").host("a.com", HERE).permits("a D behind it", PASS, 1, 0);
+        with("-a:b.com a").host("a.com", HERE).host("b.com", 1).permits("a D before it", PASS, 2, 0);
+        with("mx redirect=b.com").exchange("a.com", "h").host("h", HERE).permits("a redirect's D behind it", PASS, 1, 0);
+        with("include:b.com include:c.com -all").text("b.com", "v=spf1 " + "x=y ".repeat(50) + "-exists:h").host("h", 1)
+            .text("c.com", "v=spf1 a").host("c.com", HERE).permits("a D in the record before", PASS, 4, 0);
         with("a/31 -all").host("a.com", 1).host("a.com", HERE ^ 2).host("a.com", HERE ^ 1).permits("the third", PASS, 1, 0);
+    }
+
+    // "o DOMAIN; d the NAME that is checked": they part in a record of another name
+    private static void domainAndCheckedName() {
+        String[] before = {"include:b.net -all", "redirect=b.net"};
+        for (String terms : before) {
+            Probe probe = with(terms).text("b.net", "v=spf1 exists:%{o}.o exists:%{d}.d -all");
+            probe.permits("neither is there", FAIL, 3, 2).host("a.com.d", 1).host("b.net.o", 1);
+            probe.permits("nor the one for the other", FAIL, 3, 2).host("b.net.d", 1).permits("d", PASS, 3, 1);
+            probe.host("a.com.o", 1).permits("o", PASS, 2, 0);
+            probe = with(terms).text("b.net", "v=spf1 redirect=%{d1}.%{o1}").text("net.com", "v=spf1 exists:%{s}.%{d}");
+            probe.permits("s is the sender's everywhere", terms.startsWith("r") ? NEUTRAL : FAIL, 3, 1);
+        }
+        with("redirect=x.%{d}").text("x.a.com", "v=spf1 include:y.%{d} -all").text("y.x.a.com", "v=spf1 a")
+            .host("y.x.a.com", HERE).permits("d grows from name to name", PASS, 3, 0);
     }
 
     // "exists: D has an ADDRESS"

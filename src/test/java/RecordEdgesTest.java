@@ -231,7 +231,7 @@ public final class RecordEdgesTest {
                 term + "%{d1", term + "%{d1r", term + "%{d0}", term + "%{d0r}", term + "%{d10}", term + "%{d11}",
                 term + "%{d-1}", term + "%{dr1}", term + "%{drr}", term + "%{dd}", term + "%{D}", term + "%{dR}",
                 term + "%{x}", term + "%{r}", term + "%{1}", term + "%{1d}", term + "%{d }", term + "%{d.}",
-                term + "%d", term + "%(d)", term + "%+", term + "%20", term + "%{d}%", term + "%{d}}%{");
+                term + "%d", term + "%(d)", term + "%(d}", term + "%xd}", term + "%dd}", term + "%{d)", term + "%+", term + "%20", term + "%{d}%", term + "%{d}}%{");
         }
     }
 
