@@ -647,7 +647,8 @@ public final class SendPolicy {
                 || text.has("mx", at, stop) && readHost(MX, text, at + 2, stop)
                 || text.has("ip4:", at, stop) && readNetwork(text, at + 4, stop)
                 || text.has("exists:", at, stop) && readTarget(EXISTS, text, at + 7, stop)
-                || !signed && readModifier(text, at, stop);
+                || !signed && text.has("redirect=", at, stop) && readTarget(REDIRECT, text, at + 9, stop)
+                || !signed && readOther(text, at, stop);
         }
 
         private boolean readAll(Bytes text, int at, int stop) {
@@ -655,16 +656,11 @@ public final class SendPolicy {
             return stop - at == 3 && text.has("all", at, stop);
         }
 
-        private boolean readModifier(Bytes text, int at, int stop) {
-            int mark = text.find('=', at, stop);
-            if (mark == stop || !Signs.isWord(text, at, mark)) {
-                return false;
-            }
-            if (text.has("redirect=", at, stop)) {
-                return readTarget(REDIRECT, text, mark + 1, stop);
-            }
+        private boolean readOther(Bytes text, int at, int stop) {
             kind = OTHER;
-            return true;
+            int mark = text.find('=', at, stop);
+            // A redirect whose D is none is no other word: it must break its record.
+            return mark < stop && Signs.isWord(text, at, mark) && !text.has("redirect=", at, stop);
         }
 
         private boolean readTarget(int read, Bytes text, int at, int stop) {
